@@ -71,10 +71,10 @@ final class HistoryTest extends Check {
         };
         for (Change change : changes) {
             SubstituteDesk desk = richDesk();
-            String before = dump(desk);
             for (int k = 0; k < 8; k++) {
-                desk.setLimit(0, 2);
+                desk.setLimit(0, k % 2);
             }
+            String before = dump(desk);
             change.done(desk);
             is(7, desk::undo);
             judge(before, dump(desk));
@@ -254,7 +254,10 @@ final class HistoryTest extends Check {
         is(4, desk::save);
         desk.setAbsent(5, 0, true);
         desk.clear();
-        desk.addTeacher(1, 1);
+        desk.addTeacher(1, 3);
+        desk.addTeacher(2, 4);
+        desk.addLesson(9, 5, 4, 1, 3);
+        desk.addLesson(8, 3, 2, 1, 4);
         desk.append('t');
         refuses(ARGUMENT, desk::read);
         desk.append('t');

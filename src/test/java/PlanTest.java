@@ -3,12 +3,15 @@ final class PlanTest extends Check {
     public static void main(String[] args) {
         spread();
         extreme();
+        sharesThatDifferByOne();
         plansWithoutTeachers();
         planOfOneLesson();
         bestPlanIsLexicographicallyFirst();
         bestPlanHasLeastSpread();
         plansMindSlotsAndLimits();
         plansMindPresentCovers();
+        plansOfTheFirstTeacher();
+        plansWithSharesBefore();
         noPlan();
         tooManyOpenLessons();
         carryOut();
@@ -62,6 +65,27 @@ final class PlanTest extends Check {
         is(1, () -> desk.extreme(true));
         desk.addTeacher(1, 1);
         is(0, () -> desk.extreme(false));
+    }
+
+    private static void sharesThatDifferByOne() {
+        SubstituteDesk desk = new SubstituteDesk();
+        desk.addTeacher(63, 4);
+        desk.addTeacher(63, 3);
+        desk.addTeacher(63, 3);
+        for (int k = 0; k < 3; k++) {
+            desk.addLesson(0, k, 0, k, k);
+        }
+        desk.setCapacity(0, 60);
+        desk.setCapacity(1, 60);
+        desk.setAbsent(2, 0, true);
+        desk.split(2, 0, 1);
+        is(3, () -> desk.teacher(0, 4));
+        is(4, () -> desk.teacher(1, 4));
+        is(1, () -> desk.extreme(true));
+        is(2, () -> desk.extreme(false));
+        is(4, desk::spread);
+        is(1, () -> desk.averagePoints(3));
+        is(1, () -> desk.averagePoints(1));
     }
 
     private static void plansWithoutTeachers() {
@@ -196,6 +220,43 @@ final class PlanTest extends Check {
         desk.setAbsent(0, 6, true);
         desk.setLimit(1, 1);
         is(2, () -> desk.plans(1));
+    }
+
+    private static void plansOfTheFirstTeacher() {
+        SubstituteDesk desk = deskOf(3);
+        desk.addLesson(0, 0, 0, 2, 0);
+        desk.setAbsent(2, 0, true);
+        is(0, () -> desk.suggestion(0));
+        is(2, () -> desk.plans(0));
+        is(0, () -> desk.planned(0, 0));
+        is(1, () -> desk.carryOut(0));
+        is(2, () -> desk.teacher(0, 3));
+        desk.addLesson(1, 0, 0, 2, 0);
+        desk.setAbsent(2, 1, true);
+        // The share that 0 has already counts in the plan: 24 and 24 instead of 48.
+        is(1, () -> desk.suggestion(1));
+        is(24, () -> desk.plannedSpread(0));
+        is(1, () -> desk.planned(0, 0));
+        is(1, () -> desk.averagePoints(3));
+    }
+
+    private static void plansWithSharesBefore() {
+        SubstituteDesk desk = deskOf(3);
+        for (int k = 0; k < 3; k++) {
+            desk.addLesson(6 * k, 0, 0, k, 0);
+            desk.setAbsent(k, 6 * k, true);
+            desk.cover(k, (k + 1) % 3);
+        }
+        is(0, desk::spread);
+        desk.addLesson(29, 0, 0, 0, 0);
+        is(0, () -> desk.plannedSpread(4));
+        desk.setAbsent(0, 29, true);
+        // 24 for 0 and 2, and 72 for 1.
+        is(48, () -> desk.plannedSpread(4));
+        is(1, () -> desk.planned(4, 0));
+        desk.setLimit(1, 0);
+        is(48, () -> desk.plannedSpread(4));
+        is(2, () -> desk.planned(4, 0));
     }
 
     private static void noPlan() {

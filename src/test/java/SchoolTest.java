@@ -3,6 +3,7 @@ final class SchoolTest extends Check {
     public static void main(String[] args) {
         newDesk();
         clear();
+        clearLeavesNothingBehind();
         addTeacher();
         setLimit();
         setSize();
@@ -13,6 +14,7 @@ final class SchoolTest extends Check {
         manyLessons();
         removeLesson();
         removeLessonInSplitting();
+        removedLessonsLeaveNothingBehind();
         setRoom();
         count();
         lesson();
@@ -83,6 +85,91 @@ final class SchoolTest extends Check {
         is(0, () -> desk.lesson(0, 5));
         is(1, desk::clear);
         is(0, desk::clear);
+    }
+
+    private static void clearLeavesNothingBehind() {
+        SubstituteDesk desk = deskOf(8);
+        for (int room = 0; room < 6; room++) {
+            desk.setCapacity(room, 60);
+        }
+        for (int k = 0; k < 6; k++) {
+            desk.addLesson(0, k, 0, k, k);
+        }
+        for (int k = 0; k < 4; k++) {
+            desk.setAbsent(k, 0, true);
+        }
+        desk.split(0, 4, 5);
+        desk.split(1, 4, 5);
+        desk.cover(2, 6);
+        desk.removeLesson(1);
+        is(1, () -> desk.count(7));
+        is(5, desk::clear);
+        desk.addTeacher(63, 1);
+        for (int what = 1; what < 8; what++) {
+            int asked = what;
+            is(0, () -> desk.count(asked));
+        }
+        is(0, () -> desk.openOn(0));
+        refuses(NO_ELEMENT, () -> desk.open(0, 0));
+        is(0, () -> desk.lost(0));
+        is(0, () -> desk.lost(3));
+        is(1, () -> desk.plans(0));
+        is(0, () -> desk.coverDay(0));
+        is(63, () -> desk.freeRooms(0));
+        is(63, () -> desk.free(0, 0));
+        is(0, () -> desk.teacher(0, 5));
+        is(0, () -> desk.teacher(0, 7));
+        is(0, desk::spread);
+        // The rows of the old teachers and lessons are used anew.
+        for (int k = 1; k < 8; k++) {
+            desk.addTeacher(63, 1);
+        }
+        for (int k = 0; k < 8; k++) {
+            int asked = k;
+            is(0, () -> desk.teacher(asked, 3));
+            is(0, () -> desk.absent(asked, 0));
+        }
+        for (int k = 0; k < 6; k++) {
+            int asked = k;
+            is(k, () -> desk.addLesson(0, asked, 0, asked, asked));
+            is(0, () -> desk.lesson(asked, 5));
+            is(20, () -> desk.lesson(asked, 7));
+        }
+        desk.setAbsent(0, 0, true);
+        desk.setAbsent(2, 0, true);
+        is(3, () -> desk.lesson(0, 5));
+        is(3, () -> desk.lesson(2, 5));
+        is(0, desk::audit);
+    }
+
+    /** The last lessons and teachers leave rows behind when they are taken back; nobody may look at these. */
+    private static void removedLessonsLeaveNothingBehind() {
+        SubstituteDesk desk = deskOf(2);
+        desk.addLesson(0, 0, 0, 0, 0);
+        desk.setAbsent(0, 0, true);
+        desk.setCapacity(0, 20);
+        desk.removeLesson(0);
+        is(0, () -> desk.openOn(0));
+        is(0, () -> desk.count(5));
+        is(0, () -> desk.lost(0));
+        is(1, () -> desk.plans(0));
+        is(0, () -> desk.coverDay(0));
+        is(20, () -> desk.setSize(0, 30));
+        is(20, () -> desk.setCapacity(0, 10));
+        is(0, () -> desk.teacher(0, 5));
+        is(0, () -> desk.teacher(0, 7));
+        refuses(NO_ELEMENT, () -> desk.lessonOf(0, 0));
+        desk.setSize(0, 10);
+        is(0, () -> desk.addLesson(0, 0, 0, 1, 0));
+        desk.addTeacher(63, 4);
+        desk.setAbsent(1, 0, true);
+        desk.undo();
+        desk.undo();
+        desk.setAbsent(1, 0, true);
+        refuses(NO_ELEMENT, () -> desk.suggestion(0));
+        is(0, () -> desk.plans(0));
+        is(0, () -> desk.extreme(true));
+        is(0, desk::audit);
     }
 
     private static void addTeacher() {

@@ -78,8 +78,13 @@ final class TextTest extends Check {
         is(0, () -> desk.lesson(0, 0));
         is(1, () -> readText(desk, "l9c1s0p1r1;"));
         is(9, () -> desk.lesson(2, 0));
+        is(1, () -> readText(desk, "l9c0s5p7r5;"));
+        is(5, () -> desk.lesson(3, 2));
+        is(7, () -> desk.lesson(3, 3));
         is(1, () -> readText(desk, "l10c1s0p1r1;"));
-        is(10, () -> desk.lesson(3, 0));
+        is(10, () -> desk.lesson(4, 0));
+        is(1, () -> readText(desk, "a7@0;"));
+        is(1, () -> desk.absent(7, 0));
     }
 
     private static void readAbsences() {
@@ -153,6 +158,9 @@ final class TextTest extends Check {
             {"l0c0s0p7r", 9}, {"l0c0s0p0r0", 10}, {"l0c0s0p0r0 ", 10}, {"l10c0s0p0r0", 11}, {"l0c-", 3},
             {"a", 1}, {"a8", 1}, {"a@", 1}, {"a0", 2}, {"a00", 2}, {"a0@", 3}, {"a0@;", 3}, {"a0@0", 4},
             {"a0@00;", 4}, {"a0@01", 4}, {"a0@9", 4}, {"a0@99", 5}, {"a0@999", 5}, {"a0@1c", 4}, {"a0@1;a", 6},
+            {"l;", 1}, {"l0c;", 3}, {"l0c0;", 4}, {"l0c0s;", 5}, {"l0c0s0;", 6}, {"l0c0s0p;", 7}, {"l0c0s0p0;", 8},
+            {"l0c0s0p0r;", 9}, {"l0c5s5p7r5", 10}, {"a;", 1}, {"a0;", 2}, {"a7@;", 3}, {"t0;", 2}, {"l1:c", 2},
+            {"a0@1:;", 4}, {"a0@9/;", 4}, {"l0s", 2}, {"l0c0p", 4}, {"l0c0s0c", 6}, {"t0*1;l0c0s0p0;", 13},
             {"a0@/", 3}, {"a0@:", 3}, {"a/", 1}, {"t/", 1}, {"l/", 1}, {"l:", 1},
         };
         for (Object[] pair : wrong) {
