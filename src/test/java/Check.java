@@ -13,8 +13,11 @@ abstract class Check {
 
     static final int[] FAR = {-1, Integer.MIN_VALUE, Integer.MAX_VALUE};
 
+    private static final java.util.Set<String> HELPERS = java.util.Set.of("Check", "Bounds", "Looks");
+
     private static int wrong = 0;
     private static int checked = 0;
+    private static String sentence = "";
 
     static void is(double want, Call call) {
         judge(String.valueOf(want), outcome(call));
@@ -36,15 +39,39 @@ abstract class Check {
         checked++;
         if (!want.equals(got)) {
             wrong++;
-            System.out.println(place() + " answered " + brief(got) + ", due is " + brief(want));
+            System.out.println(place() + " answered " + brief(got) + ", due is " + brief(want)
+                    + (sentence.isEmpty() ? "" : ", where the document says: " + sentence));
+        }
+    }
+
+    /** The sentence of the document that the next answers are checked for. */
+    static void say(String text) {
+        sentence = text;
+    }
+
+    static int answersChecked() {
+        return checked;
+    }
+
+    /** The numbers from 0 to bound - 1. */
+    static int[] upTo(int bound) {
+        int[] numbers = new int[bound];
+        for (int k = 0; k < bound; k++) {
+            numbers[k] = k;
+        }
+        return numbers;
+    }
+
+    /** Appends a text to the input of a desk. */
+    static void appendText(SubstituteDesk desk, String text) {
+        for (char sign : text.toCharArray()) {
+            desk.append(sign);
         }
     }
 
     /** Appends a text to the input of a desk and reads it. */
     static int readText(SubstituteDesk desk, String text) {
-        for (char sign : text.toCharArray()) {
-            desk.append(sign);
-        }
+        appendText(desk, text);
         return desk.read();
     }
 
@@ -80,7 +107,7 @@ abstract class Check {
 
     private static String place() {
         for (StackTraceElement frame : new Throwable().getStackTrace()) {
-            if (!frame.getClassName().equals("Check")) {
+            if (!HELPERS.contains(frame.getClassName())) {
                 return frame.getFileName() + ":" + frame.getLineNumber();
             }
         }

@@ -19,6 +19,7 @@ final class FaceTest extends Check {
     public static void main(String[] args) throws IOException {
         faceIsThatOfTheDocument();
         nothingElseCanBeSeen();
+        sizesAreThoseOfTheLanguage();
         sourceKeepsToTheLanguage();
         finish();
     }
@@ -78,6 +79,27 @@ final class FaceTest extends Check {
 
     private static boolean isSeenRightly(int modifiers) {
         return Modifier.isPublic(modifiers) || Modifier.isPrivate(modifiers);
+    }
+
+    /** At most 12 classes, 20 fields a class beside its constants and 7 parameters; static fields are constants. */
+    private static void sizesAreThoseOfTheLanguage() {
+        Class<?>[] inside = SubstituteDesk.class.getDeclaredClasses();
+        judge("true", String.valueOf(inside.length + 1 <= 12));
+        Class<?>[] all = Arrays.copyOf(inside, inside.length + 1);
+        all[inside.length] = SubstituteDesk.class;
+        for (Class<?> one : all) {
+            int fields = 0;
+            for (Field field : one.getDeclaredFields()) {
+                boolean isStatic = Modifier.isStatic(field.getModifiers());
+                fields += isStatic ? 0 : 1;
+                judge("true", String.valueOf(!isStatic || Modifier.isFinal(field.getModifiers())
+                        && field.getType().isPrimitive()));
+            }
+            judge("true", String.valueOf(fields <= 20));
+            for (Method method : one.getDeclaredMethods()) {
+                judge("true", String.valueOf(method.getParameterCount() <= 7));
+            }
+        }
     }
 
     private static void sourceKeepsToTheLanguage() throws IOException {

@@ -30,21 +30,27 @@ final class HistoryTest extends Check {
         return desk;
     }
 
-    /** All that can be asked of the school, as a text. */
+    /** All that can be asked of the school, as a text: few enough calls to do so three times on one desk. */
     private static String dump(SubstituteDesk desk) {
         StringBuilder text = new StringBuilder();
-        for (int what = 0; what < 8; what++) {
-            int asked = what;
-            text.append(outcome(() -> desk.count(asked))).append(' ');
-            for (int k = 0; k < desk.count(1); k++) {
-                int number = k;
-                text.append(outcome(() -> desk.lesson(number, asked))).append(' ');
-                text.append(outcome(() -> desk.host(number, asked > 3))).append(' ');
+        int teachers = desk.count(0);
+        int lessons = desk.count(1);
+        for (int what : upTo(8)) {
+            text.append(outcome(() -> desk.count(what))).append(' ');
+            for (int lesson : upTo(lessons)) {
+                text.append(outcome(() -> desk.lesson(lesson, what))).append(' ');
             }
-            for (int k = 0; k < desk.count(0); k++) {
-                int number = k;
-                text.append(outcome(() -> desk.teacher(number, asked))).append(' ');
-                text.append(outcome(() -> desk.absent(number, asked))).append(' ');
+            for (int teacher : upTo(teachers)) {
+                text.append(outcome(() -> desk.teacher(teacher, what))).append(' ');
+            }
+        }
+        for (int lesson : upTo(lessons)) {
+            text.append(outcome(() -> desk.host(lesson, false))).append(' ');
+            text.append(outcome(() -> desk.host(lesson, true))).append(' ');
+        }
+        for (int day : upTo(5)) {
+            for (int teacher : upTo(teachers)) {
+                text.append(outcome(() -> desk.absent(teacher, day))).append(' ');
             }
         }
         return text.toString();

@@ -48,7 +48,7 @@ final class TextTest extends Check {
         }
         is(7, desk::read);
         is(7, () -> desk.count(0));
-        refuses(ARGUMENT, () -> readText(desk, "a0@0;a0@1;a0@2;a0@3;a0@4;a0@5;a0@6;a0@7;a0@8;a0@9;a0@10;a0@11;a0@12;a0"));
+        refuses(ARGUMENT, () -> readText(desk, "a0@0;".repeat(10) + "a0@10;".repeat(3) + "a0"));
         is(70, desk::errorPosition);
     }
 
@@ -145,7 +145,6 @@ final class TextTest extends Check {
     }
 
     private static void wrongTexts() {
-        SubstituteDesk desk = deskOf(8);
         Object[][] wrong = {
             {"", 0}, {";", 0}, {"x", 0}, {" t0*1;", 0}, {"T0*1;", 0}, {"0", 0},
             {"t", 1}, {"t*1;", 1}, {"t6*1;", 1}, {"t;", 1}, {"t0", 2}, {"t00*1;", 2}, {"t10*1;", 2},
@@ -164,11 +163,12 @@ final class TextTest extends Check {
             {"a0@/", 3}, {"a0@:", 3}, {"a/", 1}, {"t/", 1}, {"l/", 1}, {"l:", 1},
         };
         for (Object[] pair : wrong) {
+            SubstituteDesk desk = deskOf(8);
             refuses(ARGUMENT, () -> readText(desk, (String) pair[0]));
             is((Integer) pair[1], desk::errorPosition);
+            is(0, () -> desk.count(1));
+            is(7, desk::undo);
         }
-        is(0, () -> desk.count(1));
-        is(7, desk::undo);
     }
 
     private static void errorPosition() {
