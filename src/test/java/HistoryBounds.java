@@ -381,7 +381,7 @@ final class HistoryBounds extends Bounds {
         refuses(NO_ELEMENT, desk::undo);
         untouched(NO_ELEMENT, BARE, SubstituteDesk::undo);
         untouched(NO_ELEMENT, FORGOTTEN, SubstituteDesk::undo);
-        is(0, () -> rich.setLimit(0, 2) - 2);
+        is(2, () -> rich.setLimit(0, 2));
         is(0, rich::undo);
         refuses(NO_ELEMENT, rich::undo);
     }
