@@ -11,16 +11,13 @@ import java.util.TreeSet;
 import java.util.regex.Matcher;
 import java.util.regex.Pattern;
 
-/** The public face as the document has it, and some of the rules of LANGUAGE.md that a look at the class tells. */
+/** The public face as the document has it, and nothing else that can be seen. */
 final class FaceTest extends Check {
     private static final Path DOC = Path.of("../shared/DOC.md");
-    private static final Path SOURCE = Path.of("src/main/java/SubstituteDesk.java");
 
     public static void main(String[] args) throws IOException {
         faceIsThatOfTheDocument();
         nothingElseCanBeSeen();
-        sizesAreThoseOfTheLanguage();
-        sourceKeepsToTheLanguage();
         finish();
     }
 
@@ -79,41 +76,5 @@ final class FaceTest extends Check {
 
     private static boolean isSeenRightly(int modifiers) {
         return Modifier.isPublic(modifiers) || Modifier.isPrivate(modifiers);
-    }
-
-    /** At most 12 classes, 20 fields a class beside its constants and 7 parameters; static fields are constants. */
-    private static void sizesAreThoseOfTheLanguage() {
-        Class<?>[] inside = SubstituteDesk.class.getDeclaredClasses();
-        judge("true", String.valueOf(inside.length + 1 <= 12));
-        Class<?>[] all = Arrays.copyOf(inside, inside.length + 1);
-        all[inside.length] = SubstituteDesk.class;
-        for (Class<?> one : all) {
-            int fields = 0;
-            for (Field field : one.getDeclaredFields()) {
-                boolean isStatic = Modifier.isStatic(field.getModifiers());
-                fields += isStatic ? 0 : 1;
-                judge("true", String.valueOf(!isStatic || Modifier.isFinal(field.getModifiers())
-                        && field.getType().isPrimitive()));
-            }
-            judge("true", String.valueOf(fields <= 20));
-            for (Method method : one.getDeclaredMethods()) {
-                judge("true", String.valueOf(method.getParameterCount() <= 7));
-            }
-        }
-    }
-
-    private static void sourceKeepsToTheLanguage() throws IOException {
-        String source = Files.readString(SOURCE).replaceAll("(?s)/\\*.*?\\*/", "").replaceAll("//.*", "");
-        String[] ruledOut = {"->", "::", "\\bcatch\\b", "\\bfinally\\b", "\\bassert\\b", "\\bsynchronized\\b",
-            "\\bpackage\\b", "Exact\\(", "\\bSystem\\.(?!arraycopy)", "\\bRandom\\b", "(?m)^\\s*@", "\\bNaN\\b", "%s",
-            "[^\\x00-\\x7e]", "\\bprotected\\b", "\\bvar\\b", "\\binstanceof\\b"};
-        for (String pattern : ruledOut) {
-            Matcher found = Pattern.compile(pattern).matcher(source);
-            judge("none", found.find() ? pattern + " in " + source.substring(found.start()).split("\n")[0] : "none");
-        }
-        Matcher imports = Pattern.compile("(?m)^import (.*);$").matcher(source);
-        while (imports.find()) {
-            judge("java.util.NoSuchElementException", imports.group(1));
-        }
     }
 }
