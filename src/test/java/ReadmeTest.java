@@ -139,7 +139,7 @@ final class ReadmeTest extends Check {
 
     private static String run(String commands, Path folder) throws IOException, InterruptedException {
         Process process = new ProcessBuilder("sh", "-e", "-c", commands).directory(folder.toFile())
-                .redirectErrorStream(true).start();
+                .redirectError(ProcessBuilder.Redirect.INHERIT).start();
         String printed = new String(process.getInputStream().readAllBytes(), StandardCharsets.UTF_8);
         judge("0", String.valueOf(process.waitFor()));
         return printed;
